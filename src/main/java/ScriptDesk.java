@@ -30,9 +30,6 @@ public final class ScriptDesk {
     private final Elements elements;
     private final Tally tally;
     private final Flow flow;
-    private final Rule rule;
-    private final Moves moves;
-    private final Numbers numbers;
     private final Signatures signatures;
     private final BlockDigest sha256;
     private final BlockDigest ripemd160;
@@ -44,10 +41,7 @@ public final class ScriptDesk {
         elements = new Elements();
         tally = new Tally();
         flow = new Flow();
-        rule = new Rule(elements, tally);
-        moves = new Moves(elements);
-        numbers = new Numbers(elements);
-        signatures = new Signatures(elements, tally, rule);
+        signatures = new Signatures();
         sha256 = new Sha256();
         ripemd160 = new Ripemd160();
     }
@@ -64,7 +58,7 @@ public final class ScriptDesk {
     }
 
     public void secret(int v) {
-        rule.hidden = v;
+        signatures.hidden = v;
     }
 
     public int run() {
@@ -124,14 +118,15 @@ public final class ScriptDesk {
         if (what == 0) {
             return tally.operations;
         }
-        return what == 1 ? tally.asked : -1;
+        return what == 1 ? signatures.asked : -1;
     }
 
     private void restart() {
         scriptLength = 0;
         next = 0;
         stoppedAt = -1;
-        tally.restart();
+        tally.operations = 0;
+        signatures.asked = 0;
         flow.restart();
     }
 
@@ -179,12 +174,12 @@ public final class ScriptDesk {
             return performPlain(code);
         }
         if (code <= 136) {
-            return moves.perform(code);
+            return Moves.perform(elements, code);
         }
         if (code <= 165) {
-            return numbers.perform(code);
+            return Numbers.perform(elements, code);
         }
-        return code <= 170 ? performDigest(code) : signatures.perform(code);
+        return code <= 170 ? performDigest(code) : signatures.perform(elements, tally, code);
     }
 
     private int enterPart(boolean wanted) {
@@ -257,15 +252,9 @@ public final class ScriptDesk {
         return NO_FAULT;
     }
 
-    /** What a run is asked about afterwards. */
+    /** The operations of a run; apart, because 174 and 175 count their keys as well. */
     private static final class Tally {
         int operations;
-        int asked;
-
-        void restart() {
-            operations = 0;
-            asked = 0;
-        }
 
         boolean passesLimit(int more) {
             operations += more;
@@ -454,6 +443,11 @@ public final class ScriptDesk {
             depth++;
         }
 
+        void replaceByTruth(int taken, boolean truth) {
+            drop(taken);
+            pushNumber(truth ? 1L : 0L);
+        }
+
         void lift(int k) {
             if (k < 0 || k >= depth) {
                 return;
@@ -506,15 +500,9 @@ public final class ScriptDesk {
 
     /** Operations 109 .. 136: those that do not care what number an element is, but for 121 and 122. */
     private static final class Moves {
-        private final Elements elements;
-
-        Moves(Elements elements) {
-            this.elements = elements;
-        }
-
-        int perform(int code) {
+        static int perform(Elements elements, int code) {
             if (code == 121 || code == 122) {
-                return pick(code == 122);
+                return pick(elements, code == 122);
             }
             int needed = operandsOf(code);
             if (needed < 0) {
@@ -524,17 +512,17 @@ public final class ScriptDesk {
                 return TOO_FEW_ELEMENTS;
             }
             if (code >= 130) {
-                return look(code);
+                return look(elements, code);
             }
             if (code <= 114) {
-                moveGroups(code);
+                moveGroups(elements, code);
             } else {
-                moveSingles(code);
+                moveSingles(elements, code);
             }
             return NO_FAULT;
         }
 
-        private int operandsOf(int code) {
+        private static int operandsOf(int code) {
             switch (code) {
                 case 116:
                     return 0;
@@ -565,7 +553,7 @@ public final class ScriptDesk {
             }
         }
 
-        private int pick(boolean moved) {
+        private static int pick(Elements elements, boolean moved) {
             int fault = elements.faultOfNumber(0);
             if (fault != NO_FAULT) {
                 return fault;
@@ -583,7 +571,7 @@ public final class ScriptDesk {
             return NO_FAULT;
         }
 
-        private void moveGroups(int code) {
+        private static void moveGroups(Elements elements, int code) {
             switch (code) {
                 case 109:
                     elements.drop(2);
@@ -608,7 +596,7 @@ public final class ScriptDesk {
             }
         }
 
-        private void moveSingles(int code) {
+        private static void moveSingles(Elements elements, int code) {
             switch (code) {
                 case 115:
                     elements.pushCopies(0, elements.topHolds() ? 1 : 0);
@@ -642,27 +630,20 @@ public final class ScriptDesk {
             }
         }
 
-        private int look(int code) {
+        private static int look(Elements elements, int code) {
             if (code == 130) {
                 elements.pushNumber(elements.lengthAt(0));
                 return NO_FAULT;
             }
             boolean same = elements.areSame(0, 1);
-            elements.drop(2);
-            elements.pushNumber(same ? 1L : 0L);
+            elements.replaceByTruth(2, same);
             return code == 136 ? elements.takeTrue() : NO_FAULT;
         }
     }
 
     /** Operations 139 .. 165. */
     private static final class Numbers {
-        private final Elements elements;
-
-        Numbers(Elements elements) {
-            this.elements = elements;
-        }
-
-        int perform(int code) {
+        static int perform(Elements elements, int code) {
             int needed = operandsOf(code);
             if (needed == 0) {
                 return NO_SUCH_CODE;
@@ -673,13 +654,13 @@ public final class ScriptDesk {
                     return fault;
                 }
             }
-            long result = resultOf(code, needed);
+            long result = resultOf(elements, code, needed);
             elements.drop(needed);
             elements.pushNumber(result);
             return code == 157 ? elements.takeTrue() : NO_FAULT;
         }
 
-        private int operandsOf(int code) {
+        private static int operandsOf(int code) {
             if (code == 139 || code == 140 || code >= 143 && code <= 146) {
                 return 1;
             }
@@ -689,7 +670,7 @@ public final class ScriptDesk {
             return code == 165 ? 3 : 0;
         }
 
-        private long resultOf(int code, int needed) {
+        private static long resultOf(Elements elements, int code, int needed) {
             long top = elements.numberAt(0);
             if (needed == 1) {
                 return ofOne(code, top);
@@ -708,7 +689,7 @@ public final class ScriptDesk {
             return compare(code, under, top) ? 1L : 0L;
         }
 
-        private long ofOne(int code, long a) {
+        private static long ofOne(int code, long a) {
             switch (code) {
                 case 139:
                     return a + 1L;
@@ -725,7 +706,7 @@ public final class ScriptDesk {
             }
         }
 
-        private boolean compare(int code, long a, long b) {
+        private static boolean compare(int code, long a, long b) {
             switch (code) {
                 case 154:
                     return a != 0L && b != 0L;
@@ -748,63 +729,32 @@ public final class ScriptDesk {
         }
     }
 
-    /** THE RULE of the document; its sum is a long, so that no secret wraps around. */
-    private static final class Rule {
-        private final Elements elements;
-        private final Tally tally;
-        int hidden;
-
-        Rule(Elements elements, Tally tally) {
-            this.elements = elements;
-            this.tally = tally;
-        }
-
-        boolean fits(int signature, int key) {
-            tally.asked++;
-            int signatureLength = elements.lengthAt(signature);
-            int keyLength = elements.lengthAt(key);
-            if (signatureLength < 1 || keyLength < 1) {
-                return false;
-            }
-            long first = elements.octetAt(signature, 0);
-            long last = elements.octetAt(signature, signatureLength - 1);
-            long keyLast = elements.octetAt(key, keyLength - 1);
-            return (hidden + first * keyLast + last) % 3L == 0L;
-        }
-    }
-
-    /** Operations 172 .. 175. */
+    /** Operations 172 .. 175, with THE RULE that they ask. */
     private static final class Signatures {
-        private final Elements elements;
-        private final Tally tally;
-        private final Rule rule;
+        int hidden;
+        int asked;
 
-        Signatures(Elements elements, Tally tally, Rule rule) {
-            this.elements = elements;
-            this.tally = tally;
-            this.rule = rule;
-        }
-
-        int perform(int code) {
+        int perform(Elements elements, Tally tally, int code) {
             if (code < 172 || code > 175) {
                 return NO_SUCH_CODE;
             }
-            int fault = code <= 173 ? askOne() : askMany();
+            int fault = code <= 173 ? askOne(elements) : askMany(elements, tally);
             boolean mustBeTrue = code == 173 || code == 175;
             return fault == NO_FAULT && mustBeTrue ? elements.takeTrue() : fault;
         }
 
-        private int askOne() {
+        private int askOne(Elements elements) {
             if (elements.depth < 2) {
                 return TOO_FEW_ELEMENTS;
             }
-            replace(2, rule.fits(1, 0));
+            boolean answer = fits(elements, 1, 0);
+            elements.replaceByTruth(2, answer);
             return NO_FAULT;
         }
 
         /** The order of the tests is the document's: n, the keys, m, the signatures, x. */
-        private int askMany() {
-            int fault = faultOfAmount(0, KEY_LIMIT);
+        private int askMany(Elements elements, Tally tally) {
+            int fault = faultOfAmount(elements, 0, KEY_LIMIT);
             if (fault != NO_FAULT) {
                 return fault;
             }
@@ -812,7 +762,7 @@ public final class ScriptDesk {
             if (tally.passesLimit(n)) {
                 return TOO_MANY_OPERATIONS;
             }
-            fault = faultOfAmount(n + 1, n);
+            fault = faultOfAmount(elements, n + 1, n);
             if (fault != NO_FAULT) {
                 return fault;
             }
@@ -821,11 +771,12 @@ public final class ScriptDesk {
             if (elements.depth < all) {
                 return TOO_FEW_ELEMENTS;
             }
-            replace(all, areFitting(n, m));
+            boolean answer = allFit(elements, n, m);
+            elements.replaceByTruth(all, answer);
             return NO_FAULT;
         }
 
-        private int faultOfAmount(int k, int most) {
+        private static int faultOfAmount(Elements elements, int k, int most) {
             int fault = elements.faultOfNumber(k);
             if (fault != NO_FAULT) {
                 return fault;
@@ -835,19 +786,28 @@ public final class ScriptDesk {
         }
 
         /** The last key has one element above it, the last signature n + 2. */
-        private boolean areFitting(int n, int m) {
+        private boolean allFit(Elements elements, int n, int m) {
             int fitted = 0;
             for (int tried = 0; tried < n && fitted < m && m - fitted <= n - tried; tried++) {
-                if (rule.fits(n + 2 + fitted, 1 + tried)) {
+                if (fits(elements, n + 2 + fitted, 1 + tried)) {
                     fitted++;
                 }
             }
             return fitted == m;
         }
 
-        private void replace(int taken, boolean answer) {
-            elements.drop(taken);
-            elements.pushNumber(answer ? 1L : 0L);
+        private boolean fits(Elements elements, int signature, int key) {
+            asked++;
+            int signatureLength = elements.lengthAt(signature);
+            int keyLength = elements.lengthAt(key);
+            if (signatureLength < 1 || keyLength < 1) {
+                return false;
+            }
+            // A long sum: a large secret must not wrap around.
+            long first = elements.octetAt(signature, 0);
+            long last = elements.octetAt(signature, signatureLength - 1);
+            long keyLast = elements.octetAt(key, keyLength - 1);
+            return (hidden + first * keyLast + last) % 3L == 0L;
         }
     }
 

@@ -87,6 +87,13 @@ public final class OperationTest {
         Check.leaves("09 02 03 01", 89, 81, 82, 83, 123);
         Check.leaves("09 02 01", 89, 81, 82, 124);
         Check.leaves("09 02 01 02", 89, 81, 82, 125);
+        // An element without bytes is moved and copied as any other.
+        Check.leaves("- -", 0, 118);
+        Check.leaves("- 01 - 01", 0, 81, 110);
+        Check.leaves("- 01 -", 0, 81, 120);
+        Check.leaves("- 01 -", 0, 81, 81, 121);
+        Check.leaves("01 -", 0, 81, 81, 122);
+        Check.leaves("- 01 -", 81, 0, 125);
         Check.leaves("- -", 0, 130);
         Check.leaves("0102 02", 2, 1, 2, 130);
         Check.leaves("07".repeat(120) + " 78", Check.join(Check.sevens(120), Check.row(130)));
