@@ -64,16 +64,47 @@ final class Check {
         return join(row(76, many), times(many, 7));
     }
 
+    /** Written apart from the class: the bytes of a number, a push of them, and their text. */
+    private static int[] bytesOf(long value) {
+        String digits = java.math.BigInteger.valueOf(value).abs().toString(2);
+        int many = value == 0 ? 0 : digits.length() / 8 + 1;
+        int[] octets = new int[many];
+        for (int i = 0; i < many; i++) {
+            octets[i] = (int) ((Math.abs(value) >> 8 * i) % 256);
+        }
+        if (value < 0) {
+            octets[many - 1] += 128;
+        }
+        return octets;
+    }
+
+    static int[] pushOf(long value) {
+        int[] octets = bytesOf(value);
+        return join(row(octets.length), octets);
+    }
+
+    static String numberText(long value) {
+        StringBuilder text = new StringBuilder();
+        for (int octet : bytesOf(value)) {
+            text.append(String.format("%02x", octet));
+        }
+        return text.length() == 0 ? "-" : text.toString();
+    }
+
     /** Eight bytes a call, as an object is used for 512 calls at most. */
     static void load(ScriptDesk desk, int... codes) {
         for (int from = 0; from < codes.length; from += 8) {
             int many = Math.min(8, codes.length - from);
-            long packed = 0;
-            for (int i = 0; i < many; i++) {
-                packed = packed << 8 | codes[from + i] & 255;
-            }
-            due("put of " + many + " bytes at " + from, desk.put(packed, many), true);
+            due("put of " + many + " bytes at " + from, desk.put(packed(codes, from, many), many), true);
         }
+    }
+
+    static long packed(int[] codes, int from, int many) {
+        long packed = 0;
+        for (int i = 0; i < many; i++) {
+            packed = packed << 8 | codes[from + i] & 255;
+        }
+        return packed;
     }
 
     static int runOf(ScriptDesk desk, int... codes) {
@@ -93,6 +124,25 @@ final class Check {
             }
         }
         return text.toString();
+    }
+
+    /** All that can be asked without changing anything, but for the script and the secret. */
+    static String stateOf(ScriptDesk desk) {
+        StringBuilder text = new StringBuilder();
+        text.append(desk.size()).append(" [").append(stackOf(desk)).append("] ").append(desk.isTrue());
+        text.append(" place ").append(desk.place());
+        text.append(" counts ").append(desk.count(0)).append(' ').append(desk.count(1));
+        return text.toString();
+    }
+
+    /** A run on a new object that ends well, for stacks too high to be told as a text. */
+    static ScriptDesk ends(int size, int... codes) {
+        ScriptDesk desk = new ScriptDesk();
+        String name = java.util.Arrays.toString(codes);
+        due("run of " + name, runOf(desk, codes), 1);
+        due("place after " + name, desk.place(), -1);
+        due("size after " + name, desk.size(), size);
+        return desk;
     }
 
     static ScriptDesk leaves(String stack, int... codes) {

@@ -176,7 +176,7 @@ public final class OperationTest {
         for (long x = -3; x <= 3; x++) {
             for (long a = -2; a <= 2; a++) {
                 for (long b = -2; b <= 2; b++) {
-                    int[] codes = Check.join(Check.row(89), pushOf(x), pushOf(a), pushOf(b), Check.row(165));
+                    int[] codes = Check.join(Check.row(89), Check.pushOf(x), Check.pushOf(a), Check.pushOf(b), Check.row(165));
                     Check.leaves(a <= x && x < b ? "09 01" : "09 -", codes);
                 }
             }
@@ -191,38 +191,11 @@ public final class OperationTest {
     }
 
     private static void ofOne(int code, long a, long want) {
-        Check.leaves("09 " + numberText(want), Check.join(Check.row(89), pushOf(a), Check.row(code)));
+        Check.leaves("09 " + Check.numberText(want), Check.join(Check.row(89), Check.pushOf(a), Check.row(code)));
     }
 
     private static void ofTwo(int code, long a, long b, long want) {
-        Check.leaves("09 " + numberText(want), Check.join(Check.row(89), pushOf(a), pushOf(b), Check.row(code)));
-    }
-
-    /** Written apart from the class: the bytes of a number, a push of them, and their text. */
-    private static int[] bytesOf(long value) {
-        String digits = java.math.BigInteger.valueOf(value).abs().toString(2);
-        int many = value == 0 ? 0 : digits.length() / 8 + 1;
-        int[] octets = new int[many];
-        for (int i = 0; i < many; i++) {
-            octets[i] = (int) ((Math.abs(value) >> 8 * i) % 256);
-        }
-        if (value < 0) {
-            octets[many - 1] += 128;
-        }
-        return octets;
-    }
-
-    private static int[] pushOf(long value) {
-        int[] octets = bytesOf(value);
-        return Check.join(Check.row(octets.length), octets);
-    }
-
-    private static String numberText(long value) {
-        StringBuilder text = new StringBuilder();
-        for (int octet : bytesOf(value)) {
-            text.append(String.format("%02x", octet));
-        }
-        return text.length() == 0 ? "-" : text.toString();
+        Check.leaves("09 " + Check.numberText(want), Check.join(Check.row(89), Check.pushOf(a), Check.pushOf(b), Check.row(code)));
     }
 
     private static void oneSignature() {
